@@ -225,17 +225,15 @@ public final class HingeTables {
         return n >= least && n <= greatest;
     }
 
+    /** 0 means that no row begins with this letter. */
     private static int numbersBehind(char letter) {
-        switch (letter) {
-            case 'h':
-                return 6;
-            case 's':
-                return 2;
-            case 'c':
-                return 3;
-            default:
-                return 0;
+        if (letter == 'h') {
+            return MOST_NUMBERS;
         }
+        if (letter == 's') {
+            return 2;
+        }
+        return letter == 'c' ? 3 : 0;
     }
 
     private static long partOfFraction(long numerator, long denominator, int part) {

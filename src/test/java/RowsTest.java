@@ -11,6 +11,7 @@ public final class RowsTest {
         others();
         slides();
         shorterTable();
+        fullTable();
         stateComesFirst();
         Check.end("RowsTest");
     }
@@ -97,6 +98,38 @@ public final class RowsTest {
         Check.same("no hinge of the table before", x.hinge(15, 20, 100), NONE);
         Check.same("no slide of the table before", x.slide(450), 0);
         Check.same("no count of the table before", x.count(), NONE);
+
+        // Every place behind row 0 holds, from the tables before, a row that would answer.
+        String hinge = "h0,99,0,99,99,0";
+        HingeTables y = Check.with(hinge + ";" + hinge, 2);
+        Check.same("read() of it again", Check.readText(y, hinge + ";" + hinge), 2);
+        Check.same("read() of one row", Check.readText(y, "h1,2,3,4,5,6"), 1);
+        Check.same("read() of one row again", Check.readText(y, "h1,2,3,4,5,6"), 1);
+        Check.same("no stale hinge", y.hinge(50, 50, 50), NONE);
+        Check.same("no stale other", y.other(0, 0), NONE);
+        HingeTables z = Check.with("c99999,99999,4;c99999,99999,4;s7,8", 3);
+        Check.same("read() of one row and then none", Check.readText(z, "c1,1,1"), 1);
+        Check.same("read() of it again, over the first table", Check.readText(z, "c1,1,1"), 1);
+        Check.same("no stale count", z.count(), NONE);
+    }
+
+    private static void fullTable() {
+        StringBuilder text = new StringBuilder("c1,1,1");
+        for (int i = 1; i < 16; i++) {
+            text.append(i == 15 ? ";h1,2,3,4,5,6" : ";s900,1");
+        }
+        HingeTables x = Check.with(text.toString(), 16);
+        Check.same("hinge in the last row", x.hinge(1, 3, 5), 15);
+        Check.same("no hinge in sixteen rows", x.hinge(9, 9, 9), NONE);
+        Check.same("no other in sixteen rows", x.other(15, 0), NONE);
+        Check.same("no slide in sixteen rows", x.slide(899), NONE);
+        Check.same("the first slide of many", x.slide(900), 1);
+        Check.same("no count in sixteen rows", x.count(), NONE);
+        Check.yes("stock of the last row", x.stock(15, 0));
+        Check.same("no hinge left", x.hinge(1, 3, 5), NONE);
+        Check.fails("row(16, 0)", Check.INDEX, () -> x.row(16, 0));
+        Check.fails("stock(16, 0)", Check.INDEX, () -> x.stock(16, 0));
+        Check.fails("other(16, 0)", Check.INDEX, () -> x.other(16, 0));
     }
 
     private static void others() {
