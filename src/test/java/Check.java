@@ -11,8 +11,14 @@ final class Check {
 
     private static int checks = 0;
     private static int wrong = 0;
+    private static String sentence = "";
 
     private Check() {
+    }
+
+    /** The document's words that the checks from here on hold to; they are printed with each one that is wrong. */
+    static void sentence(String words) {
+        sentence = words;
     }
 
     static void same(String what, long got, long due) {
@@ -77,6 +83,6 @@ final class Check {
 
     private static void say(String line) {
         wrong++;
-        System.out.println(line);
+        System.out.println(line + (sentence.isEmpty() ? "" : " (\"" + sentence + "\")"));
     }
 }
